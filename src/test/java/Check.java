@@ -1,0 +1,55 @@
+/** What the tests share: answers held against those that are due, and texts told to a town. */
+final class Check {
+    private int checks = 0;
+    private int wrong = 0;
+
+    void due(String call, long got, long want) {
+        checks++;
+        if (got != want) {
+            wrong++;
+            System.out.println(call + " answered " + got + ", due is " + want);
+        }
+    }
+
+    /** Prints what was wrong in all, and leaves with exit code 1 if anything was. */
+    void end(String name) {
+        System.out.println(name + ": " + checks + " answers, " + wrong + " not as due");
+        if (wrong != 0 || checks == 0) {
+            System.exit(1);
+        }
+    }
+
+    static UpDrain townOf(String... texts) {
+        UpDrain x = new UpDrain();
+        for (String text : texts) {
+            tell(x, text);
+        }
+        return x;
+    }
+
+    /** Writes a text of one town; a text that has a fault is an error of the test itself. */
+    static void tell(UpDrain x, String text) {
+        write(x, text);
+        if (x.town() < 0) {
+            throw new IllegalStateException("a fault at " + x.fault() + " of: " + text);
+        }
+    }
+
+    static void write(UpDrain x, String text) {
+        for (int at = 0; at < text.length(); at += 8) {
+            int n = Math.min(8, text.length() - at);
+            long bytes = 0;
+            for (int i = 0; i < n; i++) {
+                bytes |= (long) text.charAt(at + i) << 8 * i;
+            }
+            x.write(bytes, n);
+        }
+    }
+
+    /** Where the text's fault is. */
+    static int faultOf(String text) {
+        UpDrain x = new UpDrain();
+        write(x, text);
+        return x.fault();
+    }
+}
