@@ -16,7 +16,7 @@ public final class UpDrain {
     private final Thoughts thoughts;
     private final Hunt hunt;
     private final Lids lids;
-    private final Walk aDay;
+    private final DayWalk aDay;
     private final Filling asked;
 
     public UpDrain() {
@@ -27,7 +27,7 @@ public final class UpDrain {
         thoughts = new Thoughts(plan, ways, water);
         hunt = new Hunt(plan, ways);
         lids = new Lids(plan, ways);
-        aDay = new Walk(plan, ways, hunt);
+        aDay = new DayWalk(plan, ways, hunt);
         asked = new Filling();
         lookAgain();
     }
@@ -757,7 +757,8 @@ public final class UpDrain {
         }
 
         int flowAt(int node, int hour) {
-            return Math.max(1, gathered[node] * (10 + plan.rain[hour]) / 10);
+            int flow = gathered[node] * (10 + plan.rain[hour]) / 10;
+            return flow < 1 ? 1 : flow;
         }
 
         /** Of one stream or of two; either may be null, which lets in nothing. */
@@ -868,19 +869,15 @@ public final class UpDrain {
             for (int a = 0; a < NODES; a++) {
                 for (int b = 0; b < a; b++) {
                     if (has(ways.sources, a) && has(ways.sources, b)) {
-                        thinkOfPair(a, b);
+                        long likely = plan.likely[a] * plan.likely[b];
+                        long thought = thoughtBy(likely, water.streams[a], water.streams[b]);
+                        ofTwo[a * NODES + b] = thought;
+                        ofTwo[b * NODES + a] = thought;
+                        allOfTwo += thought;
                     }
                 }
             }
             knowsTwo = true;
-        }
-
-        private void thinkOfPair(int a, int b) {
-            long both = (long) plan.likely[a] * plan.likely[b];
-            long thought = thoughtBy(both, water.streams[a], water.streams[b]);
-            ofTwo[a * NODES + b] = thought;
-            ofTwo[b * NODES + a] = thought;
-            allOfTwo += thought;
         }
 
         private long thoughtBy(long likely, Stream one, Stream other) {
@@ -944,7 +941,7 @@ public final class UpDrain {
 
     /** The best orders of lids, for each set of sources that may be left. */
     private static final class Hunt {
-        private static final int SETS = 1 << NODES, FAR = 1000000;
+        private static final int FAR = 1000000, NEVER = -1;
 
         private final Town plan;
         private final Ways ways;
@@ -968,16 +965,37 @@ public final class UpDrain {
             }
             int all = ways.sources;
             makeRoomFor(all);
-            int set = 0;
-            // Ascending through the sets of sources alone: what a lid leaves of a set is a lesser number.
-            for (int i = 0; i < SETS; i++) {
-                solveFor(set);
-                if (set == all) {
-                    break;
+            markWhatMayBeLeft(all);
+            // What a lid leaves of a set is a part of it, and so a lesser number, which is solved ahead of it.
+            for (int set = 0; set <= all; set++) {
+                if (fewestLids[set] != NEVER) {
+                    solveFor(set);
                 }
-                set = set - all & all;
             }
             solved = true;
+        }
+
+        /** Of all sets of sources answers can leave but few, if the pipes lie in long ways. */
+        private void markWhatMayBeLeft(int all) {
+            for (int set = 0; set <= all; set++) {
+                fewestLids[set] = NEVER;
+            }
+            fewestLids[all] = FAR;
+            for (int set = all; set > 0; set--) {
+                if (fewestLids[set] != NEVER) {
+                    markPartsOf(set);
+                }
+            }
+        }
+
+        private void markPartsOf(int set) {
+            for (int lid = 0; lid < NODES; lid++) {
+                int yes = set & ways.over[lid];
+                if (yes != 0 && yes != set) {
+                    fewestLids[yes] = FAR;
+                    fewestLids[set ^ yes] = FAR;
+                }
+            }
         }
 
         /** Rows for all sets at once would be by far the dearest of an object, and few towns need them. */
@@ -995,24 +1013,25 @@ public final class UpDrain {
 
         private void solveFor(int set) {
             boolean known = Integer.bitCount(set) <= 1;
-            fewestLids[set] = known ? 0 : FAR;
-            leastSum[set] = known ? 0 : FAR;
+            int first = set * NODES;
             for (int node = 0; node < NODES; node++) {
-                leastMinutes[set * NODES + node] = known ? 0 : FAR;
+                leastMinutes[first + node] = known ? 0 : FAR;
             }
-            if (known) {
-                return;
-            }
-            int likely = ways.likelyOf(set);
-            for (int lid = 0; lid < NODES; lid++) {
+            int lids = FAR;
+            int sum = FAR;
+            for (int lid = 0; lid < NODES && !known; lid++) {
                 if (splits(lid, set)) {
                     int yes = set & ways.over[lid];
-                    fewestLids[set] = Math.min(fewestLids[set], lidsBy(lid, set));
-                    leastSum[set] = Math.min(leastSum[set], likely + leastSum[yes] + leastSum[set ^ yes]);
-                    leastMinutes[set * NODES + lid] = minutesBy(lid, set);
+                    lids = Math.min(lids, lidsBy(lid, set));
+                    sum = Math.min(sum, leastSum[yes] + leastSum[set ^ yes]);
+                    leastMinutes[first + lid] = minutesBy(lid, set);
                 }
             }
-            walkToLids(set * NODES);
+            fewestLids[set] = known ? 0 : lids;
+            leastSum[set] = known ? 0 : sum + ways.likelyOf(set);
+            if (!known) {
+                walkToLids(first);
+            }
         }
 
         /** From the minutes at each lid to those from each node: the best way comes up to it, or down. */
@@ -1143,13 +1162,14 @@ public final class UpDrain {
         int fewestToHang(int d) {
             int pairs = pairsFartherThan(d);
             int best = plan.there;
-            int set = 0;
-            // Ascending through the sets of nodes that are there, so that the least of the fewest is met first.
-            for (int i = 0; i < 1 << NODES && set != plan.there; i++) {
-                if (Integer.bitCount(set) < Integer.bitCount(best) && tellsApart(set, pairs)) {
+            int fewest = Integer.bitCount(best);
+            // Ascending, so that of the fewest the least number is met first.
+            for (int set = 0; set < plan.there; set++) {
+                boolean there = (set & ~plan.there) == 0;
+                if (there && Integer.bitCount(set) < fewest && tellsApart(set, pairs)) {
                     best = set;
+                    fewest = Integer.bitCount(set);
                 }
-                set = set - plan.there & plan.there;
             }
             return best;
         }
@@ -1186,7 +1206,7 @@ public final class UpDrain {
     }
 
     /** One day's search, its source and its errors by draws. */
-    private static final class Walk {
+    private static final class DayWalk {
         private final Town plan;
         private final Ways ways;
         private final Hunt hunt;
@@ -1196,7 +1216,7 @@ public final class UpDrain {
         private int source;
         private int lifted;
 
-        Walk(Town plan, Ways ways, Hunt hunt) {
+        DayWalk(Town plan, Ways ways, Hunt hunt) {
             this.plan = plan;
             this.ways = ways;
             this.hunt = hunt;

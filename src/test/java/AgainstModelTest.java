@@ -126,7 +126,20 @@ public final class AgainstModelTest {
 
     // ---- calls
 
+    private static final int[] ODD = {
+        Integer.MIN_VALUE, Integer.MIN_VALUE + 1, -65536, -4096, -32, -12, -5, -4, -3, -2, -1, 12, 13, 15, 16, 31, 32, 33, 64,
+        999, 1000, 1439, 1440, 4095, 4096, 9999, 10000, 65535, 65536, 1 << 30, 1 << 31, Integer.MAX_VALUE - 1, Integer.MAX_VALUE};
+
+    /** Now and then another number than the one that was drawn. */
+    private int orOdd(int number) {
+        return random.nextInt(60) == 0 ? ODD[random.nextInt(ODD.length)] : number;
+    }
+
     private int node() {
+        return orOdd(anyNode());
+    }
+
+    private int anyNode() {
         return random.nextInt(20) == 0 ? random.nextInt(16) - 2 : random.nextInt(12);
     }
 
@@ -141,11 +154,11 @@ public final class AgainstModelTest {
     }
 
     private int cup() {
-        return random.nextInt(20) == 0 ? random.nextInt(7) - 1 : random.nextInt(4);
+        return orOdd(random.nextInt(20) == 0 ? random.nextInt(7) - 1 : random.nextInt(4));
     }
 
     private int part() {
-        return random.nextInt(20) == 0 ? random.nextInt(5) - 1 : random.nextInt(2);
+        return orOdd(random.nextInt(20) == 0 ? random.nextInt(5) - 1 : random.nextInt(2));
     }
 
     private int set() {
@@ -153,15 +166,15 @@ public final class AgainstModelTest {
             return random.nextInt();
         }
         int set = random.nextInt(3) == 0 ? 1 << random.nextInt(12) : random.nextInt(4096);
-        return random.nextInt(20) == 0 ? set : set & m.above(0);
+        return orOdd(random.nextInt(20) == 0 ? set : set & m.above(0));
     }
 
     private int minute() {
-        return random.nextInt(10) == 0 ? random.nextInt(1500) - 20 : random.nextInt(400);
+        return orOdd(random.nextInt(10) == 0 ? random.nextInt(1500) - 20 : random.nextInt(400));
     }
 
     private int times() {
-        return random.nextInt(15) == 0 ? random.nextInt(9) - 1 : 1 + random.nextInt(6);
+        return orOdd(random.nextInt(15) == 0 ? random.nextInt(9) - 1 : 1 + random.nextInt(6));
     }
 
     private int row(int n) {
@@ -174,12 +187,12 @@ public final class AgainstModelTest {
     }
 
     private int lids() {
-        return random.nextInt(15) == 0 ? random.nextInt(12) - 1 : 1 + random.nextInt(8);
+        return orOdd(random.nextInt(15) == 0 ? random.nextInt(12) - 1 : 1 + random.nextInt(8));
     }
 
     private int walk() {
         int kind = random.nextInt(12);
-        return kind == 0 ? random.nextInt(5) - 3 : kind == 1 ? 997 + random.nextInt(5) : random.nextInt(60);
+        return orOdd(kind == 0 ? random.nextInt(5) - 3 : kind == 1 ? 997 + random.nextInt(5) : random.nextInt(60));
     }
 
     private void call() {
@@ -200,7 +213,7 @@ public final class AgainstModelTest {
     private void callOfTown() {
         int a = node();
         int b = node();
-        int what = random.nextInt(11) - 1;
+        int what = orOdd(random.nextInt(11) - 1);
         int cup = cup();
         due("of(" + a + ", " + what + ")", x.of(a, what), m.of(a, what));
         due("cup(" + cup + ", " + what + ")", x.cup(cup, what), m.cup(cup, what));
@@ -208,7 +221,7 @@ public final class AgainstModelTest {
         due("walk(" + a + ", " + b + ")", x.walk(a, b), m.walk(a, b));
         due("count(" + what + ")", x.count(what), m.count(what));
         if (random.nextInt(10) == 0) {
-            int n = random.nextInt(11) - 1;
+            int n = orOdd(random.nextInt(11) - 1);
             due("write(0, " + n + ")", x.write(0, n), m.write(0, n));
         }
     }
@@ -216,7 +229,7 @@ public final class AgainstModelTest {
     private void callOfWater() {
         int source = random.nextBoolean() ? source() : node();
         int node = node();
-        int hour = random.nextInt(28) - 2;
+        int hour = orOdd(random.nextInt(28) - 2);
         int minute = minute();
         int what = part();
         int cup = cup();
@@ -235,8 +248,8 @@ public final class AgainstModelTest {
         int minute = minute();
         int n = times();
         int part = part();
-        int a = random.nextInt(5) == 0 ? random.nextInt(4) - 2 : source();
-        int b = source();
+        int a = orOdd(random.nextInt(5) == 0 ? random.nextInt(4) - 2 : source());
+        int b = orOdd(source());
         boolean yes = random.nextBoolean();
         switch (random.nextInt(14)) {
             case 0: case 1: case 2: case 3: {
@@ -254,7 +267,7 @@ public final class AgainstModelTest {
             }
             case 11: due("likeliest()", x.likeliest(), m.likeliest()); break;
             default: {
-                int strength = random.nextInt(8) == 0 ? random.nextInt(10003) - 1 : random.nextInt(300);
+                int strength = orOdd(random.nextInt(8) == 0 ? random.nextInt(10003) - 1 : random.nextInt(300));
                 due("lacks(" + strength + ")", x.lacks(strength), m.lacks(strength));
             }
         }
@@ -267,7 +280,7 @@ public final class AgainstModelTest {
         int n = lids();
         int row = row(n);
         int r = walk();
-        int seed = random.nextInt(10) == 0 ? random.nextInt(5) + 65533 : random.nextInt(65540) - 2;
+        int seed = orOdd(random.nextInt(65536));
         switch (random.nextInt(8)) {
             case 0: due("fewest(" + part + ")", x.fewest(part), m.fewest(part)); break;
             case 1: due("mean(" + part + ")", x.mean(part), m.mean(part)); break;
@@ -284,7 +297,7 @@ public final class AgainstModelTest {
             case 6: due("hang(" + r + ")", x.hang(r), m.hang(r)); break;
             default: {
                 int cup = cup();
-                int what = random.nextInt(10) == 0 ? random.nextInt(7) - 1 : random.nextInt(4);
+                int what = orOdd(random.nextInt(10) == 0 ? random.nextInt(7) - 1 : random.nextInt(4));
                 due("day(" + seed + ", " + cup + ", " + what + ")", x.day(seed, cup, what), m.day(seed, cup, what));
             }
         }

@@ -19,6 +19,24 @@ final class Check {
         }
     }
 
+    /** 0 - 1 - .. - 11, each a source of LIKELY 1: five minutes, three to walk, a tenth gone. */
+    static UpDrain longest() {
+        UpDrain x = townOf("source 0 1 1000");
+        for (int node = 1; node < 12; node++) {
+            tell(x, "pipe " + node + " " + (node - 1) + " 5 3 10;source " + node + " 1 1000");
+        }
+        return x;
+    }
+
+    /** All of 1 .. 11 at the outfall, each a source of LIKELY 1. */
+    static UpDrain widest() {
+        UpDrain x = townOf("source 0 1 1000");
+        for (int node = 1; node < 12; node++) {
+            tell(x, "pipe " + node + " 0 5 3 10;source " + node + " 1 1000");
+        }
+        return x;
+    }
+
     static UpDrain townOf(String... texts) {
         UpDrain x = new UpDrain();
         for (String text : texts) {

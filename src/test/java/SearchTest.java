@@ -13,6 +13,7 @@ public final class SearchTest {
         soonInAChain();
         soonWithoutLift();
         searchesFollowTheTown();
+        theGreatestTowns();
         searchesRefused();
         rows();
         shyRows();
@@ -111,6 +112,8 @@ public final class SearchTest {
         soon(x, 0, 2 + 10 + 1 + 10, 2);
         soon(x, 2, 10 + 1 + 10, 2);
         soon(x, 4, 2 + 10 + 1 + 10, 2);
+        soon(x, 1, 1 + 10 + 1 + 10, 2);
+        soon(x, 3, 1 + 10 + 1 + 10, 2);
         // In a town of long ways and no lift it is best to look on the way.
         UpDrain y = Check.townOf("pipe 1 0 0 60 0;pipe 2 1 0 60 0;pipe 3 2 0 60 0;source 0 1 1;source 1 1 1;source 2 1 1;source 3 1 1");
         soon(y, 0, 180, 1);
@@ -151,6 +154,27 @@ public final class SearchTest {
         Check.tell(x, "pipe 11 0 0 1 0;source 11 1 1;source 2 0 0");
         fewest(x, 1, 1);
         soon(x, 0, 6, 11);
+    }
+
+    private static void theGreatestTowns() {
+        UpDrain x = Check.longest();
+        fewest(x, 4, 4);
+        mean(x, 11, 3);
+        // Without lift he goes up from lid to lid; from the middle he would have to turn.
+        soon(x, 0, 33, 1);
+        check.due("all but the outfall", x.hang(0), 4094);
+        check.due("each second", x.hang(3), 1 << 2 | 1 << 4 | 1 << 6 | 1 << 8 | 1 << 10);
+        row(x, 0x87654321, 8, -1, 9, 4);
+        UpDrain y = Check.widest();
+        fewest(y, 11, 1);
+        // 1 + 2 + .. + 11 and 11 by 12.
+        mean(y, 77, 12);
+        soon(y, 0, 63, 1);
+        soon(y, 1, 60, 1);
+        check.due("all leaves", y.hang(0), 4094);
+        check.due("all but one of the leaves", y.hang(3), 2046);
+        // 609 modulo 12 is 9.
+        day(y, 1, 0, 3 + 8 * 6, 9, 9, 9);
     }
 
     private static void searchesRefused() {

@@ -19,6 +19,7 @@ public final class ThoughtTest {
         worthRefused();
         theLikeliest();
         whatIsLacking();
+        sourcesThatAreNoMore();
         check.end("ThoughtTest");
     }
 
@@ -303,10 +304,26 @@ public final class ThoughtTest {
         check.due("not from 2", x.lacks(200), 11);
         x.found(0, 2, 30, 1, true);
         check.due("from 1", x.lacks(200), 2);
+        x.found(0, 2, 1439, 1, true);
+        check.due("all day, though told otherwise", x.lacks(200), 2);
         x.found(0, 8, 30, 1, true);
         check.due("from nowhere", x.lacks(200), 0);
         check.due("lacks(9999)", x.lacks(9999), 0);
         check.due("lacks(10000)", x.lacks(10000), OUTSIDE);
         check.due("lacks(-1)", x.lacks(-1), OUTSIDE);
+    }
+
+    private static void sourcesThatAreNoMore() {
+        UpDrain x = Check.townOf("pipe 1 0 0 1 0;source 0 5 100;source 1 9 100;none 1");
+        check.due("the likeliest", x.likeliest(), 1);
+        worth(x, 0, 1, 14, 15);
+        Check.tell(x, "source 1 0 100");
+        check.due("the likeliest of those that are", x.likeliest(), 0);
+        worth(x, 0, 1, 5, 6);
+        worth(x, 0, 2, 0, 1);
+        check.due("no two", x.two(0, 1, 0), UNKNOWN);
+        Check.tell(x, "source 1 1 100;none 0");
+        worth(x, 0, 2, 1, 6);
+        two(x, 0, 1, 1, 1);
     }
 }

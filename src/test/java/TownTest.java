@@ -17,6 +17,7 @@ public final class TownTest {
         pipesAreToldAgain();
         whatIsToldAheadIsKept();
         sourcesAndGulps();
+        linesTellOneThing();
         ofANode();
         ofACup();
         aboveANode();
@@ -104,6 +105,11 @@ public final class TownTest {
         faults("Lift 5", 0);
         faults("lifts 5", 0);
         faults("lif 5", 0);
+        faults("xift 5", 0);
+        faults("lifx 5", 0);
+        faults("liftz 5", 0);
+        faults("lifta 5", 0);
+        faults("a lift 5", 0);
         faults("li ft 5", 0);
         faults("liFt 5", 0);
         faults("  lyft 5", 2);
@@ -281,6 +287,28 @@ public final class TownTest {
         check.due("of(0, 8)", x.of(0, 8), to);
     }
 
+    /** Each line by itself changes what it tells, and nothing else. */
+    private static void linesTellOneThing() {
+        String[] lines = {"flow 0 7", "source 0 8 9", "gulp 0 5 6", "rain 0 10", "cup 0 11 1 2", "lift 3", "none 4"};
+        for (int done = 0; done < lines.length; done++) {
+            UpDrain x = Check.townOf("flow 0 2", lines[done]);
+            String behind = " behind " + lines[done];
+            check.due("flow" + behind, x.of(0, 4), done == 0 ? 7 : 2);
+            check.due("LIKELY" + behind, x.of(0, 5), done == 1 ? 8 : 0);
+            check.due("STRENGTH" + behind, x.of(0, 6), done == 1 ? 9 : 0);
+            check.due("from" + behind, x.of(0, 7), done == 2 ? 5 : 0);
+            check.due("to" + behind, x.of(0, 8), done == 2 ? 6 : 23);
+            check.due("rain" + behind, x.flow(0, 0), done == 0 ? 7 : done == 3 ? 4 : 2);
+            check.due("no rain" + behind, x.flow(0, 1), done == 0 ? 7 : 2);
+            check.due("cup" + behind, x.cup(0, 0), done == 4 ? 11 : 1);
+            check.due("A" + behind, x.cup(0, 1), done == 4 ? 1 : 0);
+            check.due("B" + behind, x.cup(0, 2), done == 4 ? 2 : 0);
+            check.due("lift" + behind, x.count(4), done == 5 ? 3 : 0);
+            check.due("none" + behind, x.count(5), done == 6 ? 4 : 0);
+            check.due("nodes" + behind, x.count(0), 1);
+        }
+    }
+
     private static void ofANode() {
         UpDrain x = Check.townOf("pipe 2 0 3 4 5");
         check.due("of(-1, 0)", x.of(-1, 0), UNKNOWN);
@@ -329,6 +357,15 @@ public final class TownTest {
         check.due("walk(5, 11)", x.walk(5, 11), 90);
         check.due("walk(3, 11)", x.walk(3, 11), 130);
         check.due("walk(2, 7)", x.walk(2, 7), 30);
+        UpDrain y = Check.longest();
+        check.due("walk(0, 11)", y.walk(0, 11), 33);
+        check.due("walk(11, 0)", y.walk(11, 0), 33);
+        check.due("above(0) of all", y.above(0), 4095);
+        check.due("above(10) of all", y.above(10), 3 << 10);
+        UpDrain z = Check.townOf("pipe 10 0 0 60 0;pipe 11 0 0 60 0", "pipe 10 8 0 60 0;pipe 11 9 0 60 0",
+            "pipe 8 6 0 60 0;pipe 9 7 0 60 0;pipe 6 4 0 60 0;pipe 7 5 0 60 0", "pipe 4 2 0 60 0;pipe 5 3 0 60 0;pipe 3 1 0 60 0",
+            "pipe 2 0 0 60 0;pipe 1 0 0 60 0");
+        check.due("the longest walk", z.walk(10, 11), 11 * 60);
         check.due("walk(1, 0)", x.walk(1, 0), UNKNOWN);
         check.due("walk(0, 1)", x.walk(0, 1), UNKNOWN);
         check.due("walk(1, 1)", x.walk(1, 1), UNKNOWN);

@@ -91,6 +91,11 @@ public final class WaterTest {
         comes(x, 3, 2, 0, 66);
         comes(x, 3, 1, 0, 44);
         comes(x, 3, 0, 0, 29);
+        UpDrain y = Check.longest();
+        // 1000, 900, 810, 729, 656, 590, 531, 477, 429, 386, 347, 312.
+        comes(y, 11, 0, 54, 0);
+        comes(y, 11, 0, 55, 312);
+        comes(y, 11, 1, 50, 347);
         Check.tell(x, "pipe 1 0 0 1 99;source 3 1 9999");
         comes(x, 3, 0, 0, 44);
     }
