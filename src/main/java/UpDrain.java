@@ -358,7 +358,7 @@ public final class UpDrain {
     private static long lowest(long above, long below, int part) {
         long a = above;
         long b = below;
-        // The lesser of the two is at least halved in two rounds, so 63 bits need no more than these.
+        // Two rounds at least halve the divisor, so its 63 bits never need as many as the bound.
         for (int round = 0; round < 200 && b != 0; round++) {
             long rest = a % b;
             a = b;
@@ -374,9 +374,10 @@ public final class UpDrain {
     private static final class Text {
         static final int MOST_BYTES = 200, MOST_LINES = 9, MOST_NUMBERS = 5;
         private static final int MOST_DIGITS = 4, BLANK = 32, SEMICOLON = 59;
+        // The kinds of lines; the last one is told by none of these: how likely it is that there is no source.
+        static final int PIPE = 0, FLOW = 1, SOURCE = 2, GULP = 3, RAIN = 4, CUP = 5, LIFT = 6;
         private static final int KINDS = 8;
-        static final int PIPE = 0, FLOW = 1, SOURCE = 2, GULP = 3, RAIN = 4, CUP = 5, LIFT = 6, NO_SOURCE = 7;
-        // Behind BOUND[kind], up to BOUND[kind + 1], stand the bounds of the kind's numbers.
+        // From BOUND[kind] on, up to BOUND[kind + 1], stand the bounds of the kind's numbers.
         private static final int[] BOUND = {0, 5, 7, 10, 13, 15, 19, 20, 21};
         private static final int[] LEAST = {1, 0, 0, 1, 0, 0, 0, 0, 0, 0, 0, 0, 0, 0, 0, 0, 1, 0, 0, 0, 0};
         private static final int[] MOST = {
@@ -990,8 +991,8 @@ public final class UpDrain {
 
         private void markPartsOf(int set) {
             for (int lid = 0; lid < NODES; lid++) {
-                int yes = set & ways.over[lid];
-                if (yes != 0 && yes != set) {
+                if (splits(lid, set)) {
+                    int yes = set & ways.over[lid];
                     fewestLids[yes] = FAR;
                     fewestLids[set ^ yes] = FAR;
                 }
