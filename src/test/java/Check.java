@@ -1,13 +1,34 @@
+import java.util.List;
+
 /** What the tests share: answers held against those that are due, and texts told to a town. */
 final class Check {
     private int checks = 0;
     private int wrong = 0;
+    private String sentence = "";
+
+    /** The sentence that the answers from here on test: of a promise by its number, or of the terms (0). */
+    void says(int promise, String quote) {
+        sentence = (promise == 0 ? "terms" : "promise " + promise) + ", '" + quote + "': ";
+    }
 
     void due(String call, long got, long want) {
         checks++;
         if (got != want) {
             wrong++;
-            System.out.println(call + " answered " + got + ", due is " + want);
+            System.out.println(sentence + call + " answered " + got + ", due is " + want);
+        }
+    }
+
+    /** What can be seen of two objects is alike. */
+    void alike(String behind, UpDrain one, UpDrain other) {
+        List<String> seen = Look.at(one);
+        List<String> due = Look.at(other);
+        for (int i = 0; i < due.size(); i++) {
+            checks++;
+            if (!seen.get(i).equals(due.get(i))) {
+                wrong++;
+                System.out.println(sentence + "behind " + behind + " " + seen.get(i) + ", due is " + due.get(i));
+            }
         }
     }
 
