@@ -28,6 +28,7 @@ public final class RefusalTest {
     }
 
     public static void main(String[] args) {
+        theFirstThatFits();
         ofTheText();
         ofTheTown();
         ofWhatComes();
@@ -98,6 +99,31 @@ public final class RefusalTest {
     }
 
     // ---- the calls
+
+    private static void theFirstThatFits() {
+        check.says(0, "Refused, and nothing changes: UNKNOWN (no such NODE, or it is not there, no such CUP, SOURCE), "
+            + "OUTSIDE (another number is not as told), NOT (not now: as told), FULL: the first of these that fits.");
+        UpDrain x = withTenFound();
+        check.due("no such CUP, no such set, full", x.found(4, 0, 0, 1, true), UNKNOWN);
+        check.due("no such set, full", x.found(3, 0, 0, 1, true), OUTSIDE);
+        check.due("full", x.found(3, 1, 0, 1, true), FULL);
+        check.alike("found(..)", x, withTenFound());
+        UpDrain y = withoutThought();
+        check.due("no such NODE, no such part, all is 0", y.chance(12, 2), UNKNOWN);
+        check.due("a NODE that is not there, all is 0", y.chance(3, 0), UNKNOWN);
+        check.due("no SOURCE, all is 0", y.chance(4, 0), UNKNOWN);
+        check.due("no such part, all is 0", y.chance(2, 2), OUTSIDE);
+        check.due("all is 0", y.chance(2, 1), NOT);
+        check.due("no such CUP, no such minute, all is 0", y.worth(4, 1, 1440, 1, 0), UNKNOWN);
+        check.due("no such minute, all is 0", y.worth(3, 1, 1440, 1, 0), OUTSIDE);
+        check.due("all is 0", y.worth(3, 1, 1439, 1, 0), NOT);
+        check.alike("chance(..), worth(..)", y, withoutThought());
+        UpDrain z = withoutSources();
+        check.due("no such CUP, no such SEED, no SOURCES", z.day(65536, 4, 0), UNKNOWN);
+        check.due("no such SEED, no SOURCES", z.day(65536, 3, 0), OUTSIDE);
+        check.due("no SOURCES", z.day(65535, 3, 0), NOT);
+        check.alike("day(..)", z, withoutSources());
+    }
 
     private static void ofTheText() {
         check.says(2, "n (1 .. 8) bytes more of THE TEXT, byte i being bytes >> 8 i & 255: how many it has. OUTSIDE; FULL.");

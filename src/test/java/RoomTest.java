@@ -26,7 +26,7 @@ public final class RoomTest {
             Check.tell(x, "pipe " + node + " 0 5 5 5;source " + node + " " + node + " 999;lift 5;none 5");
         }
         Check.tell(x, "source 0 9 9;cup 0 1 1 1");
-        for (int i = 0; i < 400; i++) {
+        for (int i = 0; i < 130; i++) {
             call(x, kind, i);
         }
     }

@@ -3,6 +3,8 @@ import java.util.function.ToIntFunction;
 /** The bounds of THE TEXT and of the numbers of its LINES, sentence by sentence: promises 2 to 5 and their terms. */
 public final class TextBoundsTest {
     private static final int NONE = UpDrain.NONE, NOT = UpDrain.NOT, FULL = UpDrain.FULL, OUTSIDE = UpDrain.OUTSIDE;
+    private static final String[] LINES = {
+        "pipe 6 0 7 8 9", "flow 6 7", "source 6 7 8", "gulp 6 7 8", "rain 6 7", "cup 2 7 8 9", "lift 7", "none 7"};
     private static final Check check = new Check();
 
     public static void main(String[] args) {
@@ -10,6 +12,7 @@ public final class TextBoundsTest {
         theLastOfTwoHundredBytes();
         nineLines();
         whatStandsBetweenLines();
+        eightKindsOfLines();
         letters();
         digits();
         blanks();
@@ -109,6 +112,25 @@ public final class TextBoundsTest {
         faults("", 0);
     }
 
+    private static void eightKindsOfLines() {
+        check.says(0, "each is one of: pipe V U M W F. flow V N. source V L S. gulp V I J. rain H R. cup K L A B. lift N. none N.");
+        for (String line : LINES) {
+            good(line);
+            // One number more or less, or another kind in its place.
+            faults(line + " 1", line.length() + 1);
+            faults(line + " " + line, line.length() + 1);
+            int last = line.lastIndexOf(' ');
+            faults(line.substring(0, last), last);
+            faults(line.substring(0, last) + ";lift 1", last);
+            for (String other : LINES) {
+                good(line + ";" + other);
+            }
+        }
+        faults("walk 1 2", 0);
+        faults("fault", 0);
+        faults("outfall 0", 0);
+    }
+
     // ---- what it is written in
 
     private static void letters() {
@@ -130,8 +152,19 @@ public final class TextBoundsTest {
             faults(word.substring(0, word.length() - 1), 0);
             faults(word + "s", 0);
             faults(word.toUpperCase(), 0);
+            anotherLetter(word);
             faults(Character.toUpperCase(word.charAt(0)) + word.substring(1), 0);
             faults((char) (word.charAt(0) + 128) + word.substring(1), 0);
+        }
+    }
+
+    private static void anotherLetter(String word) {
+        for (int i = 0; i < word.length(); i++) {
+            for (char letter = 'a'; letter <= 'z'; letter++) {
+                if (letter != word.charAt(i)) {
+                    faults(word.substring(0, i) + letter + word.substring(i + 1) + " 1 1 1 1 1", 0);
+                }
+            }
         }
     }
 
@@ -392,9 +425,7 @@ public final class TextBoundsTest {
 
     private static void theEndTooSoon() {
         check.says(0, "or at the end, if it comes too soon.");
-        String[] lines = {
-            "pipe 6 0 7 8 9", "flow 6 7", "source 6 7 8", "gulp 6 7 8", "rain 6 7", "cup 2 7 8 9", "lift 7", "none 7"};
-        for (String line : lines) {
+        for (String line : LINES) {
             String[] tokens = line.split(" ");
             String soFar = "";
             for (int i = 0; i < tokens.length; i++) {
